@@ -533,10 +533,7 @@ public final class Markethall {
             rate = act.rate;
             band = act.band;
             pool = act.amount;
-            house = 0;
-            issued = 0;
             phase = CONTINUOUS;
-            wasSplit = false;
         }
 
         char enter(char next) {
@@ -574,16 +571,6 @@ public final class Markethall {
         // What lacked as it was settled last: due as the next day ends.
         final int[] late = new int[MAX_STOCKS];
         final int[] lateAge = new int[MAX_STOCKS];
-
-        void fill(int startCash) {
-            cash = startCash;
-            out = false;
-            called = false;
-            startDay();
-            for (int stock = 0; stock < MAX_STOCKS; stock++) {
-                clearStock(stock);
-            }
-        }
 
         void startDay() {
             cancels = 0;
@@ -656,8 +643,6 @@ public final class Markethall {
             left = act.amount;
             level = act.level;
             peak = act.peak;
-            part = 0;
-            turn = 0;
             state = OPEN;
         }
 
@@ -823,7 +808,7 @@ public final class Markethall {
             if (traderCount >= MAX_TRADERS) {
                 return -1;
             }
-            traders[traderCount].fill(cash);
+            traders[traderCount].cash = cash;
             traderCount++;
             return traderCount - 1;
         }
