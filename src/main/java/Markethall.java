@@ -26,6 +26,7 @@ public final class Markethall {
     private static final int AGE_OF_BUY_IN = 3;
     private static final int CANCELS_TO_REPORT = 5;
 
+    // Acts; the first five are the kinds of orders, too: up to ICEBERG they show, up to PEG they rest.
     private static final int LIMIT = 0;
     private static final int ICEBERG = 1;
     private static final int PEG = 2;
@@ -476,7 +477,9 @@ public final class Markethall {
             case OPEN_AUCTION:
                 return hall.stocks[act.stock].enter(AUCTION);
             case UNCROSS:
-                return Auction.finish(hall, act.stock);
+                int traded = Auction.finish(hall, act.stock);
+                Matching.run(hall, act.stock, Matching.firstStop(hall, act.stock));
+                return traded;
             case END_DAY:
                 return DayEnd.close(hall);
             case SPLIT:
@@ -484,7 +487,9 @@ public final class Markethall {
             case DIVIDEND:
                 return hall.payOut(act.stock, act.amount);
             default:
-                return Matching.come(hall, act);
+                int number = Matching.come(hall, act);
+                Matching.run(hall, act.stock, Matching.toMatch(hall, number));
+                return number;
         }
     }
 
@@ -651,15 +656,15 @@ public final class Markethall {
         }
 
         boolean shows() {
-            return kind == LIMIT || kind == ICEBERG;
+            return kind <= ICEBERG;
         }
 
         boolean rests(int atStock, boolean onBuySide) {
-            return isOpen() && (shows() || kind == PEG) && stock == atStock && isBuy == onBuySide;
+            return state == OPEN && kind <= PEG && stock == atStock && isBuy == onBuySide;
         }
 
         boolean restsAndShows(int atStock, boolean onBuySide) {
-            return isOpen() && shows() && stock == atStock && isBuy == onBuySide;
+            return state == OPEN && kind <= ICEBERG && stock == atStock && isBuy == onBuySide;
         }
 
         // 0 where a peg has no price, anchor being the best price that shows on its side, or 0.
@@ -725,8 +730,8 @@ public final class Markethall {
         }
 
         void write(int tradePrice, int tradeQuantity, int buyTrader, int sellTrader) {
+            int row = Math.floorMod(count, MAX_KEPT);
             count++;
-            int row = rowOf(0);
             price[row] = tradePrice;
             quantity[row] = tradeQuantity;
             buyer[row] = buyTrader;
@@ -1018,14 +1023,20 @@ public final class Markethall {
             Order order = hall.orders[number];
             order.fill(act);
             hall.orderCount++;
-            if (order.kind == STOP) {
-                run(hall, act.stock, fires(hall, order) ? order : null);
-            } else if (hall.stocks[act.stock].phase == CONTINUOUS) {
-                run(hall, act.stock, order);
-            } else {
+            if (order.kind != STOP && hall.stocks[act.stock].phase != CONTINUOUS) {
                 rest(hall, order);
             }
             return number;
+        }
+
+        // The order that came, if it is matched at once; of stops, none but this is looked at yet.
+        static Order toMatch(Hall hall, int number) {
+            if (number < 0 || number >= hall.orderCount) {
+                return null;
+            }
+            Order order = hall.orders[number];
+            boolean isNow = order.kind == STOP ? fires(hall, order) : hall.stocks[order.stock].phase == CONTINUOUS;
+            return isNow ? order : null;
         }
 
         private static char refusalOf(Hall hall, Act act) {
@@ -1175,7 +1186,7 @@ public final class Markethall {
         }
     }
 
-    /** How an auction ends. */
+    /** How an auction trades. */
     private static final class Auction {
         private Auction() {
         }
@@ -1186,7 +1197,6 @@ public final class Markethall {
             int traded = price == 0 ? 0 : tradeAll(hall, number, price);
             stock.phase = CONTINUOUS;
             stock.reference = stock.last;
-            Matching.run(hall, number, Matching.firstStop(hall, number));
             return traded;
         }
 

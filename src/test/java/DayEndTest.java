@@ -5,6 +5,9 @@ public final class DayEndTest {
         failsByNumbers();
         locatedShares();
         agesOfFails();
+        agesStartAnew();
+        agesOfThoseWhoAreGone();
+        splitOfFails();
         buyIn();
         buyInDifference();
         calledAndNot();
@@ -155,6 +158,73 @@ public final class DayEndTest {
         Check.due("cash", x.cashOf(2), 1000L - 50 + 55);
         Check.due("cash", x.cashOf(0), 1000L + 150 - 110);
         Check.due("isSound", x.isSound(), true);
+    }
+
+    private static void agesStartAnew() {
+        Markethall x = hall(10, 0, 1000, 1000);
+        x.locate(0, 0, 5);
+        deal(x, 0, 1, 5, 10);
+        deal(x, 0, 1, 3, 10);
+        endDays(x, 3);
+        Check.due("3 lack", x.fails(), 3);
+        x.locate(0, 0, 3);
+        x.endDay();
+        Check.due("settled late", x.owed(1, 0), 0);
+        Check.due("settled late", x.settled(1, 0), 8);
+        deal(x, 0, 1, 4, 10);
+        endDays(x, 4);
+        Check.due("these are 2 days old", x.owed(1, 0), 4);
+        Check.due("3, 4 and 4", x.fails(), 11);
+        x.endDay();
+        Check.due("bought in", x.owed(1, 0), 0);
+    }
+
+    // 0 and 1 default while what they lack is 2 days old; what 2 lacks the day behind is of a trade.
+    private static void agesOfThoseWhoAreGone() {
+        Markethall x = hall(10, 100, 100, 100, 1000, 1000, 1000);
+        x.addStock(10, 100, 100, 0);
+        x.issue(4, 1, 100);
+        x.locate(0, 0, 5);
+        x.locate(2, 0, 3);
+        deal(x, 0, 1, 5, 10);
+        deal(x, 0, 1, 5, 10);
+        endDays(x, 2);
+        x.limit(4, 1, 0, false, 40, 10);
+        x.market(0, 1, 0, true, 20);
+        x.market(1, 1, 0, true, 20);
+        deal(x, 2, 3, 3, 10);
+        deal(x, 2, 3, 3, 10);
+        Check.due("two are called", x.endDay(), 2);
+        Check.due("two default", x.endDay(), 2);
+        Check.due("they are out", x.isOut(0) && x.isOut(1), true);
+        Check.due("lacked", x.fails(), 10);
+        x.endDay();
+        Check.due("3 of the trade lack", x.fails(), 13);
+        Check.due("1 day old", x.owed(3, 0), 3);
+        x.endDay();
+        Check.due("2 days old", x.owed(3, 0), 3);
+        x.endDay();
+        Check.due("bought in", x.owed(3, 0), 0);
+        Check.due("isSound", x.isSound(), true);
+    }
+
+    private static void splitOfFails() {
+        Markethall x = hall(10, 0, 1000, 1000);
+        x.locate(0, 0, 5);
+        deal(x, 0, 1, 5, 10);
+        deal(x, 0, 1, 3, 10);
+        endDays(x, 3);
+        Check.due("3 lack", x.owed(0, 0), -3);
+        x.split(0, 2);
+        Check.due("6 lack", x.owed(0, 0), -6);
+        Check.due("6 are to be got", x.owed(1, 0), 6);
+        x.locate(0, 0, 5);
+        x.endDay();
+        Check.due("5 more", x.settled(1, 0), 15);
+        Check.due("1 lacks", x.fails(), 4);
+        x.endDay();
+        Check.due("bought in at 5", x.cashOf(1), 1000L - 80 + 5);
+        Check.due("position", x.position(0, 0), -15);
     }
 
     private static void buyIn() {

@@ -201,6 +201,18 @@ public final class OrdersTest {
         Check.noArgument("kind", () -> y.alarms('x'));
         Check.noArgument("kind", () -> y.alarms('W'));
 
+        Markethall w = hall();
+        w.limit(0, 0, 0, false, 1, 5);
+        w.market(1, 0, 0, true, 1);
+        w.endDay();
+        for (int i = 0; i < 5; i++) {
+            w.limit(1, 0, 0, true, 1, 5);
+        }
+        for (int i = 2; i < 7; i++) {
+            w.cancel(i);
+        }
+        Check.due("a trade of the day before does not count", w.alarms('s'), 1);
+
         Markethall z = hall();
         for (int i = 0; i < 7; i++) {
             z.limit(i % 2, 0, 0, true, 1, 5);
