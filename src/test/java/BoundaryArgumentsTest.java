@@ -32,6 +32,10 @@ public final class BoundaryArgumentsTest {
         refusedOrders();
         questions();
         most512();
+        fullHall();
+        fullOfStops();
+        fullAuction();
+        fullDays();
         Check.end();
     }
 
@@ -431,5 +435,134 @@ public final class BoundaryArgumentsTest {
             z.endow(1000000);
         }
         Check.due("the 512th call", z.endow(1000000), 512000000L);
+    }
+
+    // "At most 3 stocks", "at most 6 traders", "at most 100 orders": with all of them, each call reaches the last one.
+    private static void fullHall() {
+        Markethall x = new Markethall();
+        for (int i = 0; i < 3; i++) {
+            x.addStock(10, 50, 100, 1000);
+        }
+        for (int i = 0; i < 6; i++) {
+            x.addTrader(i == 5 ? 0 : 1000);
+            Check.due("issue", x.issue(i, 2, 60), 60);
+            Check.due("issue more", x.issue(i, 2, 40), 100);
+            Check.due("settled", x.settled(i, 2), 100);
+        }
+        x.locate(5, 0, 30);
+        for (int i = 0; i < 97; i++) {
+            Check.due("order", x.limit(i % 6, 2, i % 2, i % 2 == 0, 1, i % 2 == 0 ? 8 : 12), i);
+        }
+        x.limit(5, 0, 0, false, 30, 10);
+        x.market(4, 0, 0, true, 30);
+        Check.due("the hundredth trades with the last one that rests", x.limit(5, 2, 0, true, 16, 12), 99);
+        Check.due("state", x.stateOf(99), 'x');
+        Check.due("up to one of its own", x.alarms('w'), 1);
+        Check.due("the last one", x.stateOf(95), 'o');
+        Check.due("traded", x.trades(), 1 + 2);
+        Check.due("best", x.best(2, true), 8);
+        Check.due("shown to buy", x.shown(2, true, 8), 49);
+        Check.due("shown to sell", x.shown(2, false, 12), 46);
+        Check.due("auction", x.openAuction(2), 'c');
+        Check.due("nothing to trade", x.uncross(2), 0);
+        Check.due("cancel", x.cancel(96), 1);
+        Check.due("split", x.split(2, 2), 6);
+        Check.due("left of the last one to buy", x.leftOf(94), 2);
+        Check.due("price of it", x.priceOf(94), 4);
+        Check.due("dividend", x.dividend(2, 1), 1200L);
+        Check.due("paid to the last trader", x.cashOf(5), 300L - 2 * 12 + 204);
+        Check.due("filled", x.filledShare(), 4f / 100f);
+        Check.due("sound", x.isSound(), true);
+        Check.due("endDay", x.endDay(), 0);
+        Check.due("orders of the last trader", x.kill(5), 16);
+        Check.due("of the first one", x.kill(0), 16);
+        Check.due("endDay", x.endDay(), 0);
+        Check.due("sound", x.isSound(), true);
+        Check.due("day", x.day(), 2);
+    }
+
+    // A hundred stops that fire one behind the other, as an auction ends or as an order trades.
+    private static void fullOfStops() {
+        Markethall x = new Markethall();
+        x.addStock(10, 50, 100, 1000);
+        x.addTrader(1000);
+        x.openAuction(0);
+        for (int i = 0; i < 100; i++) {
+            Check.due("stop", x.stop(0, 0, 0, true, 1, 10), i);
+        }
+        x.uncross(0);
+        for (int i = 0; i < 100; i++) {
+            Check.due("fired " + i, x.stateOf(i), 'x');
+        }
+        Markethall y = new Markethall();
+        y.addStock(10, 50, 100, 1000);
+        y.addTrader(1000);
+        y.addTrader(1000);
+        y.issue(1, 0, 100);
+        for (int i = 0; i < 98; i++) {
+            Check.due("stop", y.stop(0, 0, 0, true, 1, 11), i);
+        }
+        y.limit(1, 0, 0, false, 100, 11);
+        y.market(0, 0, 0, true, 1);
+        Check.due("all have traded", y.trades(), 99);
+        Check.due("the last one", y.stateOf(97), 'd');
+        Check.due("left", y.leftOf(98), 1);
+        Check.due("filled", y.filledShare(), 99f / 100f);
+    }
+
+    // As many trades as 99 orders can make: each ends but one of two.
+    private static void fullAuction() {
+        Markethall x = new Markethall();
+        x.addStock(10, 50, 100, 1000);
+        x.addTrader(1000000);
+        x.addTrader(1000000);
+        x.issue(1, 0, 9999);
+        x.openAuction(0);
+        for (int i = 0; i < 49; i++) {
+            x.limit(0, 0, 0, true, 200, 11);
+        }
+        for (int i = 0; i < 50; i++) {
+            x.limit(1, 0, 1, false, i == 0 || i == 49 ? 100 : 200, 11);
+        }
+        Check.due("one that takes no part", x.limit(1, 0, 1, false, 1, 12), 99);
+        Check.due("traded", x.uncross(0), 9800);
+        Check.due("trades", x.trades(), 98);
+        Check.due("of 100 each", x.meanPrice() * x.tradeQuantity(97) + x.tradeQuantity(0), 1200.0);
+        Check.due("all whole but one", x.filledShare(), 99f / 100f);
+        Check.due("position", x.position(0, 0), 9800);
+        Check.due("sound", x.isSound(), true);
+    }
+
+    // With 3 stocks and 6 traders: the last trader lacks shares of the last stock, is bought in, and defaults.
+    private static void fullDays() {
+        Markethall x = new Markethall();
+        for (int i = 0; i < 3; i++) {
+            x.addStock(10, 100, 100, 100);
+        }
+        for (int i = 0; i < 5; i++) {
+            x.addTrader(1000);
+        }
+        x.addTrader(84);
+        x.locate(5, 2, 4);
+        for (int i = 0; i < 2; i++) {
+            x.limit(5, 2, 0, false, 4, 10);
+            x.market(0, 2, 0, true, 4);
+        }
+        Check.due("84 for 80", x.endDay(), 0);
+        for (int i = 1; i < 5; i++) {
+            Check.due("nobody is called", x.endDay(), 0);
+        }
+        Check.due("fails", x.fails(), 12);
+        Check.due("bought in", x.position(5, 2), -4);
+        Check.due("for 44", x.cashOf(5), 120L);
+        Check.due("dividend", x.dividend(2, 11), 0L);
+        Check.due("called: 36 for 40", x.endDay(), 1);
+        Check.due("it is the last one", x.isCalled(5), true);
+        Check.due("it defaults", x.endDay(), 1);
+        Check.due("out", x.isOut(5), true);
+        Check.due("house", x.houseOf(2), -4);
+        Check.due("36 for the fund", x.fund(), 36L);
+        Check.due("nobody pays", x.cashOf(4), 1000L);
+        Check.due("sound", x.isSound(), true);
     }
 }

@@ -24,6 +24,8 @@ public final class BoundaryDaysTest {
         withoutAny();
         oneByOne();
         allIsGone();
+        obligationsAreGone();
+        splitsOfObligations();
         splitsOfPrices();
         splitsOfShares();
         splitOnce();
@@ -433,10 +435,20 @@ public final class BoundaryDaysTest {
             Check.due("out", x.isOut(0), true);
             Check.due("cash", x.cashOf(0), 0L);
             Check.due("fund behind " + cash, x.fund(), Math.max(0, cash - 100L));
+            if (cash > 100) {
+                Check.due("to what the fund has", fundWith(7, cash), cash - 100L + 7);
+            }
             int lost = Math.max(0, 100 - cash);
             Check.due("1 pays first", x.cashOf(1), 4920L - (lost + 1) / 2);
             Check.due("2 pays the other half", x.cashOf(2), 4980L - lost / 2);
         }
+    }
+
+    private static long fundWith(int fund, int cash) {
+        Markethall x = loser(cash, 5000, 5000);
+        x.endow(fund);
+        endDays(x, 2);
+        return x.fund();
     }
 
     // "the fund pays, as far as it goes": 90.
@@ -486,6 +498,18 @@ public final class BoundaryDaysTest {
         endDays(y, 2);
         Check.due("with one, this pays all", y.cashOf(2), 4980L - 93);
         Check.due("who is out pays nothing", y.cashOf(1), 4920L);
+        // The first trader pays as any other.
+        for (int cash = 97; cash <= 99; cash++) {
+            Markethall z = hall(10, 100, 5000, cash, 5000);
+            z.issue(0, 0, 100);
+            z.locate(1, 0, 10);
+            deal(z, 1, 0, 10, 10);
+            deal(z, 0, 2, 1, 20);
+            endDays(z, 2);
+            int lost = 100 - cash;
+            Check.due("0 of " + lost, z.cashOf(0), 4920L - (lost + 1) / 2);
+            Check.due("2 of " + lost, z.cashOf(2), 4980L - lost / 2);
+        }
     }
 
     // By the numbers of the traders: who has paid for a lower one is looked at behind that.
@@ -564,6 +588,30 @@ public final class BoundaryDaysTest {
         Check.due("refused", x.limit(0, 0, 0, true, 1, 1), -1);
         Check.due("k", x.refused(), 'k');
         Check.due("sound", x.isSound(), true);
+    }
+
+    // "obligations of the trader are gone", those of trades of each day, and those that lack of each age.
+    private static void obligationsAreGone() {
+        for (int day = 0; day < 7; day++) {
+            Markethall x = hall(10, 100, 5000, 100, 5000);
+            x.issue(2, 0, 500);
+            x.locate(0, 0, 5);
+            deal(x, 0, 1, 5, 10);
+            deal(x, 0, 1, 5, 10);
+            endDays(x, day);
+            Check.due("in", x.isOut(1), false);
+            deal(x, 2, 1, 300, 10);
+            x.endDay();
+            deal(x, 2, 1, 20, 10);
+            x.endDay();
+            Check.due("1 is out, behind day " + day, x.isOut(1), true);
+            Check.due("nothing is owed to 1", x.owed(1, 0), 0);
+            Check.due("by 2 it is", x.owed(2, 0), -320);
+            endDays(x, 3);
+            Check.due("delivered, to nobody", x.settled(2, 0), 180);
+            Check.due("nor has 1 got any", x.settled(1, 0), 0);
+            Check.due("sound", x.isSound(), true);
+        }
     }
 
     // "divided by k, cut, but at least 1, offsets at least 0".
@@ -651,6 +699,46 @@ public final class BoundaryDaysTest {
         }
     }
 
+    // Those due on each of the next days, and the house.
+    private static void splitsOfObligations() {
+        for (int day = 0; day < 6; day++) {
+            Markethall x = hall(10, 100, 0, 5000, 5000);
+            x.locate(0, 0, 10);
+            deal(x, 0, 1, 10, 10);
+            endDays(x, 4 + day);
+            x.issue(2, 0, 100);
+            int house = x.houseOf(0);
+            int owed = x.owed(1, 0);
+            for (int i = 1; i <= 3; i++) {
+                deal(x, 2, 1, i, 10);
+                if (i < 3) {
+                    x.endDay();
+                }
+            }
+            int later = x.houseOf(0);
+            int sum = x.owed(1, 0);
+            Check.due("the house behind day " + day, house, day == 0 ? -10 : 0);
+            Check.due("owed behind day " + day, owed, day == 0 ? 10 : 0);
+            Check.due("split", x.split(0, 3), 3);
+            Check.due("house", x.houseOf(0), 3 * later);
+            Check.due("owed", x.owed(1, 0), 3 * sum);
+            int settled = x.settled(1, 0);
+            for (int i = 1; i <= 3; i++) {
+                x.endDay();
+                settled += 3 * i;
+                Check.due("settled of day " + i, x.settled(1, 0), settled);
+            }
+            Check.due("sound", x.isSound(), true);
+        }
+        Markethall y = hall(10, 100, 0, 5000);
+        y.locate(0, 0, 10);
+        deal(y, 0, 1, 10, 10);
+        endDays(y, 2);
+        y.split(0, 4);
+        Check.due("the house below 0", y.houseOf(0), -40);
+        Check.due("sound", y.isSound(), true);
+    }
+
     // "if there was one already": of this stock.
     private static void splitOnce() {
         Markethall x = hall(9999, 0, 1000);
@@ -685,7 +773,9 @@ public final class BoundaryDaysTest {
         Check.due("fund", x.fund(), -90L);
         Check.due("who is out has no position", x.cashOf(0), 0L);
         x.kill(1);
+        x.endow(1000);
         Check.due("who was killed has", x.dividend(0, 1), 1L);
+        Check.due("the house pays of what it has", x.fund(), 1000L - 90 - 10);
         Check.due("sound", x.isSound(), true);
     }
 }

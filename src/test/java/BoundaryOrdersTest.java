@@ -34,6 +34,7 @@ public final class BoundaryOrdersTest {
         auctionTies();
         auctionByPriceAndTurn();
         auctionIcebergs();
+        auctionOfOne();
         fifthCancel();
         fifthCancelOfWhoTraded();
         Check.end();
@@ -232,6 +233,11 @@ public final class BoundaryOrdersTest {
         x.peg(2, 0, 0, true, 5, 0);
         Check.due("a peg that comes without any is not matched", x.trades(), 2);
         Check.noElement("nothing to buy shows", () -> x.best(0, true));
+        Markethall y = hall();
+        y.limit(2, 0, 0, true, 5, 20);
+        y.peg(0, 0, 0, false, 5, 0);
+        Check.due("nor is one to sell", y.trades(), 0);
+        Check.due("it rests", y.stateOf(1), 'o');
     }
 
     // "It shows what is left, an iceberg at most its peak of it; pegs show nothing."
@@ -258,6 +264,12 @@ public final class BoundaryOrdersTest {
         y.peg(0, 0, 0, false, 6, 0);
         y.stop(0, 0, 0, false, 6, 1);
         Check.noElement("none that shows", () -> y.best(0, false));
+        y.openAuction(0);
+        y.iceberg(0, 0, 0, false, 6, 27, 5);
+        Check.due("one that comes in an auction shows its peak", y.shown(0, false, 27), 5);
+        y.iceberg(0, 0, 0, false, 4, 27, 5);
+        Check.due("or what is left", y.shown(0, false, 27), 9);
+        Check.due("best", y.best(0, false), 27);
     }
 
     // "A limit, iceberg or peg is matched only if that price is as good as its own, or better".
@@ -484,6 +496,12 @@ public final class BoundaryOrdersTest {
         Check.due("whole", x.stateOf(0), 'd');
         Check.due("of the market order 1 was traded", x.tradeQuantity(0), 1);
         Check.due("the rest was cancelled", x.stateOf(6), 'x');
+        Markethall y = hall();
+        y.iceberg(0, 0, 0, false, 4, 21, 2);
+        y.market(2, 0, 0, true, 2);
+        y.limit(1, 0, 0, false, 1, 21);
+        y.market(2, 0, 0, true, 1);
+        Check.due("the new turn is ahead of one that came behind it", y.sellerOf(0), 0);
     }
 
     // "What is left of a limit, iceberg or peg rests with a turn of its own; of a market order, it is cancelled."
@@ -758,6 +776,15 @@ public final class BoundaryOrdersTest {
         y.limit(1, 0, 0, false, 1, 25);
         Check.due("10 at each", y.uncross(0), 10);
         Check.due("with a difference of 1 at each, 20 is the nearest", y.lastPrice(0), 20);
+        Markethall z = hall(30, 100);
+        z.openAuction(0);
+        z.limit(2, 0, 0, true, 4, 20);
+        z.limit(2, 0, 1, true, 4, 20);
+        z.limit(0, 0, 0, false, 5, 20);
+        z.limit(0, 0, 1, false, 3, 20);
+        z.limit(2, 0, 0, true, 5, 30);
+        Check.due("8 of 13 and 8, though 30 has 5 of 5 and 8 and is nearer", z.uncross(0), 8);
+        Check.due("20", z.lastPrice(0), 20);
     }
 
     // "of several the one with the least difference of what could be bought and sold, then the one nearest to the last
@@ -771,6 +798,10 @@ public final class BoundaryOrdersTest {
         Check.due("1 nearer to the higher one", priceOfTwo(26, 30, 21, 0), 30);
         Check.due("the difference ahead of the nearest", priceOfTwo(21, 30, 21, 1), 30);
         Check.due("equal prices", priceOfTwo(20, 25, 25, 0), 25);
+        Check.due("the least price", priceOfTwo(20, 1, 1, 0), 1);
+        Check.due("the greatest price", priceOfTwo(20, 9999, 9999, 0), 9999);
+        Check.due("the least and the greatest", priceOfTwo(5000, 9999, 1, 0), 1);
+        Check.due("the greatest is nearer", priceOfTwo(5001, 9999, 1, 0), 9999);
     }
 
     // Ten to buy at the one price, ten to sell at the other, and some more to buy there.
@@ -829,7 +860,34 @@ public final class BoundaryOrdersTest {
             Check.due("shown behind " + traded, x.shown(0, false, 20), 10 + Math.min(4, 10 - traded));
             x.market(2, 0, 0, true, 1);
             Check.due("its turn behind " + traded, x.sellerOf(0), traded < 10 ? 0 : 1);
+            Markethall y = hall();
+            y.iceberg(2, 0, 0, true, 10, 20, 4);
+            y.limit(1, 0, 0, true, 10, 20);
+            y.openAuction(0);
+            y.limit(0, 0, 0, false, traded, 20);
+            Check.due("traded", y.uncross(0), traded);
+            Check.due("shown to buy behind " + traded, y.shown(0, true, 20), 10 + Math.min(4, 10 - traded));
+            y.market(0, 0, 0, false, 1);
+            Check.due("its turn to buy behind " + traded, y.buyerOf(0), traded < 10 ? 2 : 1);
         }
+    }
+
+    // "two of one trader, too, with an alarm 'w'": for each such trade.
+    private static void auctionOfOne() {
+        Markethall x = hall();
+        x.openAuction(0);
+        x.limit(0, 0, 0, true, 4, 20);
+        x.limit(0, 0, 1, false, 1, 20);
+        x.limit(1, 0, 0, false, 1, 20);
+        x.limit(0, 0, 0, false, 2, 20);
+        Check.due("no alarm as they come", x.alarms('w'), 0);
+        Check.due("traded", x.uncross(0), 4);
+        Check.due("two of three", x.alarms('w'), 2);
+        Check.due("trades", x.trades(), 3);
+        Check.due("of one trader", x.buyerOf(0) + x.sellerOf(0) + x.buyerOf(2) + x.sellerOf(2), 0);
+        Check.due("of two traders", x.sellerOf(1), 1);
+        Check.due("cash", x.cashOf(0), 1000000L - 20);
+        Check.due("owed", x.owed(0, 0), 1);
     }
 
     // "'s': a trader who by cancel() cancels a 5th order of a day, or a later one ...; once a day, as it is called."
@@ -880,6 +938,19 @@ public final class BoundaryOrdersTest {
         Check.due("what the market cancels is none", z.alarms('s'), 0);
         z.cancel(z.peg(2, 0, 0, true, 1, 5));
         Check.due("5 of any kind", z.alarms('s'), 1);
+        // Each trader, on each day: 4 bring none, 5 bring one.
+        for (int trader = 0; trader < 3; trader++) {
+            Markethall w = hall();
+            for (int day = 0; day < 3; day++) {
+                for (int i = 0; i < 4; i++) {
+                    w.cancel(w.limit(trader, 0, 0, true, 1, 5));
+                }
+                Check.due("4 of trader " + trader, w.alarms('s'), day);
+                w.cancel(w.limit(trader, 0, 0, true, 1, 5));
+                Check.due("5 of trader " + trader, w.alarms('s'), day + 1);
+                w.endDay();
+            }
+        }
     }
 
     // "and has not traded in it so far".
