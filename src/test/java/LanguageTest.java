@@ -87,8 +87,13 @@ public final class LanguageTest {
             }
         }
         Check.due("the face", got.toString(), due.toString());
+        for (Class<?> inside : Markethall.class.getDeclaredClasses()) {
+            for (Method each : inside.getDeclaredMethods()) {
+                hidden.add(each.getName());
+            }
+        }
         for (String each : due) {
-            Check.due("private name " + each, hidden.contains(each.split(" ")[1]), false);
+            Check.due("hidden name " + each, hidden.contains(each.split(" ")[1]), false);
         }
         Constructor<?>[] constructors = Markethall.class.getDeclaredConstructors();
         Check.due("constructors", constructors.length, 1);
